@@ -795,7 +795,7 @@ public final class FeatherVotes {
         /** Whether it is of a kind, or of one under it. */
         boolean isA(int asked) {
             int k = kind;
-            for (int step = 0; step < KINDS && isUpTo(k, KINDS - 1); step++) {
+            for (int step = 0; step < KINDS && k >= 0 && k < KINDS; step++) {
                 if (k == asked) {
                     return true;
                 }
