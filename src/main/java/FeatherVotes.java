@@ -51,7 +51,6 @@ public final class FeatherVotes {
     private static final int MOST_IN_WIND = 15;
     private static final int TENTHS = 10;
     private static final int MOST_STOLEN = 9;
-    private static final int STATE_FEATURES = 7;
 
     /** What of() and change() tell of a bird. */
     private static final int BIRD_KIND = 0;
@@ -67,6 +66,9 @@ public final class FeatherVotes {
     private static final int MOTION_WANTS = 2;
     private static final int MOTION_EFFECT = 3;
     private static final int MOTION_LAW = 4;
+
+    /** From here on now() tells what lies at the foot, by colours. */
+    private static final int NOW_FOOT = 4;
 
     private final State here = new State();
     /** Where what would be is tried out, so that nothing changes here. */
@@ -186,7 +188,7 @@ public final class FeatherVotes {
     }
 
     public int now(int what) {
-        if (!isUpTo(what, STATE_FEATURES)) {
+        if (!isUpTo(what, NOW_FOOT + COLOURS - 1)) {
             return finding(BEYOND);
         }
         switch (what) {
@@ -199,7 +201,7 @@ public final class FeatherVotes {
             case 3:
                 return here.flyers();
             default:
-                return here.foot[what - 4];
+                return here.foot[what - NOW_FOOT];
         }
     }
 

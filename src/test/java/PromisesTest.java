@@ -10,6 +10,11 @@ public final class PromisesTest {
     private static final int[] WRONG = {-1, Integer.MIN_VALUE, Integer.MAX_VALUE};
 
     private static final Due DUE = new Due();
+    private static final int FINDINGS = 7;
+
+    /** The object that is asked, and the findings that it has answered since. */
+    private static FeatherVotes asked = null;
+    private static final int[] SEEN = new int[FINDINGS];
 
     private PromisesTest() {
     }
@@ -43,7 +48,9 @@ public final class PromisesTest {
         promise22Colour();
         promise23KindFor();
         promise24Quorum();
+        promises15To23Untried();
         promises25To28Agendas();
+        promises25To28First();
         promises25To28ByOrder();
         promise29Wind();
         promise30Fits();
@@ -67,15 +74,38 @@ public final class PromisesTest {
         promises44To46Images();
         promise47Count();
         promise48Status();
+        dueFindings();
         DUE.end();
     }
 
     private static FeatherVotes begin(String part) {
+        dueFindings();
         DUE.part(part);
-        return new FeatherVotes();
+        asked = new FeatherVotes();
+        return asked;
+    }
+
+    /** Whatever the object answered, its findings and no others have been counted. */
+    private static void dueFindings() {
+        for (int which = 0; which < FINDINGS; which++) {
+            if (asked != null) {
+                DUE.is("status " + which + " at last", asked.status(which), SEEN[which]);
+            }
+            SEEN[which] = 0;
+        }
+        asked = null;
     }
 
     private static void due(String call, long got, long want) {
+        long which = Due.BEYOND - got;
+        if (which >= 0 && which < FINDINGS) {
+            SEEN[(int) which]++;
+        }
+        DUE.is(call, got, want);
+    }
+
+    /** For answers that only look like findings, and for findings that nobody looked at. */
+    private static void dueUncounted(String call, long got, long want) {
         DUE.is(call, got, want);
     }
 
@@ -444,7 +474,13 @@ public final class PromisesTest {
         due("season", x.now(0), 99960);
         due("40 more", x.seasons(40), Due.STATE);
         due("40 more is wrong first", x.seasons(41), Due.BEYOND);
-        due("39 more", x.seasons(39), 0);
+        due("38 more", x.seasons(38), 0);
+        due("2 years", x.years(2), Due.STATE);
+        due("2 years are wrong first", x.years(21), Due.BEYOND);
+        x.image();
+        due("a year", x.years(1), 0);
+        due("and back", x.undo(), 99998);
+        due("a season", x.seasons(1), 0);
         due("season", x.now(0), 99999);
         due("one more", x.seasons(1), Due.STATE);
         due("a year", x.years(1), Due.STATE);
@@ -557,6 +593,32 @@ public final class PromisesTest {
         due("no motion", y.hinges(-1), Due.BEYOND);
     }
 
+    /** Objects that nothing has been tried on, for a trial must not be left from another call. */
+    private static FeatherVotes untried() {
+        FeatherVotes x = begin("untried");
+        for (int b = 0; b < 3; b++) {
+            x.bird(BIRD);
+            x.change(b, 3, 5);
+        }
+        x.motion(0);
+        x.tell(0, 2, 3);
+        return x;
+    }
+
+    private static void promises15To23Untried() {
+        due("when", untried().when(0), 0);
+        due("flies", untried().flies(2), 0);
+        due("plucked", untried().plucked(0), 0);
+        due("hinges", untried().hinges(0), 3);
+        due("sets", untried().sets(0), 4);
+        due("power", untried().power(1, 0), 2);
+        FeatherVotes x = untried();
+        x.tell(0, 2, 4);
+        due("won", x.won(0), 1);
+        due("colour", untried().colour(0), 0);
+        due("kindFor", untried().kindFor(2), 0);
+    }
+
     private static void promise19Sets() {
         FeatherVotes x = state("19", "bird has 9;bird has 9;bird has 9;motion 0;motion 0 quorum 4;motion 1");
         due("2 or 3 of 3", x.sets(0), 4);
@@ -605,6 +667,11 @@ public final class PromisesTest {
         due("no motion", x.won(-1), Due.BEYOND);
         FeatherVotes y = state("21 blocs", "bird has 9;crow has 9;crow has 9;crow has 9;motion 0 wants 1");
         due("two crows: 1 + 4 to 1", y.won(0), 6);
+        FeatherVotes z = state("21 all", "crow has 9;crow has 9;crow has 9;crow has 9;crow has 9;crow has 9;crow has 9",
+                "crow has 9;motion 0 quorum 64");
+        due("only all of them drop 64", z.won(0), 255);
+        z.tell(0, 1, 65);
+        due("never", z.won(0), Due.NONE);
     }
 
     private static void promise22Colour() {
@@ -638,11 +705,44 @@ public final class PromisesTest {
         x.tell(1, 1, 0);
         due("1 to 1 each: a swan drops none of colour 1", x.kindFor(1), 1);
         due("kind stays", x.of(1, 0), BIRD);
+        x.tell(1, 2, 0);
+        x.tell(0, 2, 2);
+        due("for motion 0 a raven", x.kindFor(1), 3);
         due("no bird", x.kindFor(3), Due.BEYOND);
         due("no bird", x.kindFor(-1), Due.BEYOND);
         FeatherVotes y = begin("23 no motions");
         y.bird(GULL);
         due("no motions", y.kindFor(0), 0);
+        fullAssembly();
+    }
+
+    /** As many birds and motions as there can be. */
+    private static void fullAssembly() {
+        FeatherVotes x = begin("full");
+        for (int i = 0; i < 8; i++) {
+            x.bird(BIRD);
+            x.change(i, 3, 9);
+            x.motion(0);
+        }
+        for (int m = 0; m < 8; m++) {
+            x.tell(m, 2, 15);
+            x.tell(m, 3, 1 + m % 4);
+        }
+        due("4 to 4; a crow alone is no more, a raven is", x.kindFor(0), 3);
+        due("on the other side a swan is no less, a wren neither", x.kindFor(7), 0);
+        x.change(7, 1, 9);
+        due("a wren that can't spare one", x.kindFor(7), 5);
+        x.tell(7, 2, 31);
+        due("5 to 3", x.passes(7), 1);
+        x.tell(7, 3, 1);
+        due("vote", x.vote(7), 1);
+        for (int b = 0; b < 8; b++) {
+            due("grows of " + b, x.of(b, 2), 2);
+            due("feathers of " + b, x.of(b, 3), 8);
+        }
+        due("hinges", x.hinges(7), 31);
+        due("laws", x.now(2), 128);
+        due("who fly", x.now(3), 127);
     }
 
     private static void promise24Quorum() {
@@ -688,6 +788,27 @@ public final class PromisesTest {
         }
         due("nothing changed", x.now(1), 1);
         due("nothing changed", x.now(2), 0);
+    }
+
+    private static void promises25To28First() {
+        String text = "bird has 3;motion 0 wants 1;motion 0;motion 0 wants 1;motion 0";
+        due("ith asked first", state("26", text).ith(10, 1), 3);
+        due("ways asked first", state("27", text).ways(14), 6);
+        due("ways asked of another set", state("27", text).ways(0), 1);
+        due("left asked first", state("28", text).left(3), 1);
+        FeatherVotes x = begin("25 eight");
+        x.bird(BIRD);
+        for (int m = 0; m < 8; m++) {
+            x.motion(m % 4);
+            x.tell(m, 2, 1);
+        }
+        x.seasons(7);
+        due("the last ones", x.agenda(0xf8), 4);
+        due("3 ahead of 7 has but one feather", x.ways(0xf8), 120);
+        due("6 and 2", x.agenda(0x44), 2);
+        due("first", x.ith(0x44, 0), 2);
+        due("second", x.ith(0x44, 1), 6);
+        due("left", x.left(0x44), 5);
     }
 
     private static void promises25To28ByOrder() {
@@ -753,6 +874,7 @@ public final class PromisesTest {
         x.sheet(0, 16, 2);
         x.write(0, 1, 1);
         due("0 to 1", x.fits(0), 8);
+        due("the last sheet", x.fits(3), Due.MISSING);
         due("no sheet", x.fits(4), Due.BEYOND);
         due("no sheet", x.fits(-1), Due.BEYOND);
     }
@@ -817,11 +939,11 @@ public final class PromisesTest {
     private static void promise33Seed() {
         FeatherVotes x = begin("33");
         due("at first", x.seed(-1000001), 1);
-        due("any int", x.seed(Integer.MIN_VALUE), -1000001);
+        dueUncounted("any int", x.seed(Integer.MIN_VALUE), -1000001);
         due("any int", x.seed(7), Integer.MIN_VALUE);
         due("z", x.count(6), 7);
         x.seed(-1000004);
-        due("z", x.count(6), -1000004);
+        dueUncounted("z", x.count(6), -1000004);
         due("no finding", x.status(-1), 0);
     }
 
@@ -951,6 +1073,15 @@ public final class PromisesTest {
         dueText(x, "Bird", -1);
         dueText(x, "bIrd", -1);
         dueText(x, "birD", -1);
+        dueText(x, "cird", -1);
+        dueText(x, "birdz", -1);
+        dueText(x, "birda", -1);
+        dueText(x, "bird{", -5);
+        dueText(x, "bird`", -5);
+        dueText(x, "bird/", -5);
+        dueText(x, "bird:", -5);
+        dueText(x, ";".repeat(120), -1);
+        dueText(x, "season 1" + ";".repeat(112), -10);
         dueText(x, "7", -1);
         dueText(x, ";", -1);
         dueText(x, "bird;", -6);
@@ -1165,6 +1296,11 @@ public final class PromisesTest {
     private static void promise43Judge() {
         FeatherVotes x = state("43", "bird has 2;motion 0 wants 1 effect 1;motion 0;motion 1 wants 1");
         due("missing", x.judge(0), Due.MISSING);
+        due("the last sheet", x.judge(3), Due.MISSING);
+        x.sheet(3, 16, 40);
+        due("40 votes", x.judge(3), 2);
+        x.write(3, 39, 3);
+        due("the last is no motion", x.judge(3), Due.STATE);
         due("no sheet", x.judge(4), Due.BEYOND);
         due("no sheet", x.judge(-1), Due.BEYOND);
         x.sheet(0, 8, 3);
@@ -1192,7 +1328,8 @@ public final class PromisesTest {
         due("image", x.image(), 1);
         feed(x, "bird;swan");
         x.sheet(2, 8, 9);
-        due("changes", read(x, " grows 4;motion 1 quorum 7"), 3);
+        due("changes", read(x, " grows 4;motion 1 quorum 7 wants 3 effect 4"), 3);
+        x.tell(1, 4, 1);
         x.vote(0);
         x.seasons(2);
         x.clears();
@@ -1224,6 +1361,11 @@ public final class PromisesTest {
         due("keeps", x.of(1, 1), 2);
         due("grows", x.of(1, 2), 1);
         due("feathers", x.of(1, 7), 0);
+        due("a new motion is as at first", x.motion(2), 1);
+        int[] fresh = {2, 1, 0, 0, 0};
+        for (int what = 0; what < fresh.length; what++) {
+            due("told " + what, x.told(1, what), fresh[what]);
+        }
         due("findings stay", x.status(-1), 1);
         x.seasons(1);
         due("it stays", x.undo(), 5);
@@ -1259,27 +1401,29 @@ public final class PromisesTest {
     private static void promise48Status() {
         FeatherVotes x = begin("48");
         x.image();
-        x.bird(7);
-        x.count(8);
+        due("kind", x.bird(7), Due.BEYOND);
+        due("what", x.count(8), Due.BEYOND);
         for (int b = 0; b < 10; b++) {
-            x.bird(TERN);
+            due("a tern", x.bird(TERN), b < 8 ? b : Due.FULL);
         }
         x.hold(0, 0);
-        x.as(0, WREN);
+        due("no wren", x.as(0, WREN), Due.KIND);
         x.motion(0);
-        x.won(0);
-        x.when(0);
-        x.quorum(0);
-        x.fits(0);
-        x.fits(1);
-        x.write(2, 0, 0);
-        x.load(3);
+        due("won", x.won(0), Due.NONE);
+        x.change(0, 2, 0);
+        x.tell(0, 2, 1);
+        due("when", x.when(0), Due.NONE);
+        due("quorum", x.quorum(0), Due.NONE);
+        due("missing", x.fits(0), Due.MISSING);
+        due("missing", x.fits(1), Due.MISSING);
+        due("missing", x.write(2, 0, 0), Due.MISSING);
+        due("missing", x.load(3), Due.MISSING);
         for (int s = 0; s < 5; s++) {
-            x.sheet(0, 8, -1);
+            due("size", x.sheet(0, 8, -1), Due.SIZE);
         }
         x.sheet(1, 8, 1);
         x.write(1, 0, 1);
-        x.judge(1);
+        due("no motion", x.judge(1), Due.STATE);
         int[] want = {2, 2, 1, 3, 1, 4, 5};
         for (int which = 0; which < want.length; which++) {
             due("status " + which, x.status(which), want[which]);
