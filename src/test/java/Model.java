@@ -407,16 +407,16 @@ final class Model {
                 throw new Finding(Due.NONE);
             }
             case "colour": {
-                for (int n = 0; n <= 8 * 99; n++) {
-                    for (int c = 0; c < 4; c++) {
-                        World w = now.twin();
-                        w.motions.get(a[0])[0] = c;
-                        if (w.passes(a[0]) && w.dropped(a[0], 0) + w.dropped(a[0], 1) == n) {
-                            return c;
-                        }
+                TreeMap<Integer, Integer> coloursByDropped = new TreeMap<>();
+                for (int c = 0; c < 4; c++) {
+                    World w = now.twin();
+                    w.motions.get(a[0])[0] = c;
+                    if (w.passes(a[0])) {
+                        coloursByDropped.putIfAbsent(w.dropped(a[0], 0) + w.dropped(a[0], 1), c);
                     }
                 }
-                throw new Finding(Due.NONE);
+                ask(!coloursByDropped.isEmpty(), Due.NONE);
+                return coloursByDropped.firstEntry().getValue();
             }
             case "kindFor": {
                 for (int n = 8; n > 0; n--) {
@@ -471,8 +471,18 @@ final class Model {
         ask(!name.equals("ith") || among(a[1], 0, members.size() - 1), Due.BEYOND);
         List<List<Integer>> orders = new ArrayList<>();
         allOrders(List.of(), members, orders);
-        int most = orders.stream().mapToInt(o -> now.twin().votes(o)).max().getAsInt();
-        List<List<Integer>> best = orders.stream().filter(o -> now.twin().votes(o) == most).toList();
+        int most = -1;
+        List<List<Integer>> best = new ArrayList<>();
+        for (List<Integer> order : orders) {
+            int passing = now.twin().votes(order);
+            if (passing > most) {
+                best.clear();
+                most = passing;
+            }
+            if (passing == most) {
+                best.add(order);
+            }
+        }
         switch (name) {
             case "agenda":
                 return most;

@@ -3,6 +3,7 @@ import java.lang.reflect.Method;
 import java.util.ArrayList;
 import java.util.List;
 import java.util.Random;
+import java.util.stream.IntStream;
 
 /** Runs of calls by chance (the same each time), each call compared with the plain model. */
 public final class ModelTest {
@@ -12,17 +13,19 @@ public final class ModelTest {
     private static final String[] WORDS = {"has", "keeps", "grows", "quorum", "wants", "effect", "bird", "motion", "season", ";"};
     private static final int[] FAR = {-2, -1, 41, 100, 256, 1000, Integer.MIN_VALUE, Integer.MAX_VALUE, -1000001};
 
+    private final int run;
     private final Random chance;
     private final FeatherVotes real = new FeatherVotes();
     private final Model model = new Model();
     private final List<String> told = new ArrayList<>();
     private boolean right = true;
 
-    private ModelTest(long seed) {
-        chance = new Random(seed);
+    private ModelTest(int run) {
+        this.run = run;
+        chance = new Random(run);
     }
 
-    public static void main(String[] args) throws ReflectiveOperationException {
+    public static void main(String[] args) {
         Method[] methods = FeatherVotes.class.getDeclaredMethods();
         List<Method> calls = new ArrayList<>();
         for (Method m : methods) {
@@ -31,22 +34,19 @@ public final class ModelTest {
             }
         }
         calls.sort((a, b) -> a.getName().compareTo(b.getName()));
-        int wrong = 0;
-        for (int run = 0; run < RUNS && wrong < 3; run++) {
-            ModelTest test = new ModelTest(run);
-            if (!test.isRight(calls)) {
-                wrong++;
-                System.out.println("run " + run + ":");
-                test.told.forEach(System.out::println);
-            }
+        List<ModelTest> wrong = IntStream.range(0, RUNS).parallel().mapToObj(ModelTest::new)
+                .filter(test -> !test.isRight(calls)).toList();
+        for (ModelTest test : wrong.subList(0, Math.min(3, wrong.size()))) {
+            System.out.println("run " + test.run + ":");
+            test.told.forEach(System.out::println);
         }
-        System.out.println(RUNS + " runs, " + wrong + " not as the model's");
-        if (wrong != 0) {
+        System.out.println(RUNS + " runs, " + wrong.size() + " not as the model's");
+        if (!wrong.isEmpty()) {
             System.exit(1);
         }
     }
 
-    private boolean isRight(List<Method> calls) throws ReflectiveOperationException {
+    private boolean isRight(List<Method> calls) {
         if (chance.nextInt(4) > 0) {
             begin(calls);
         }
@@ -68,7 +68,7 @@ public final class ModelTest {
         return calls.stream().filter(m -> m.getName().equals(name)).findFirst().get();
     }
 
-    private void begin(List<Method> calls) throws ReflectiveOperationException {
+    private void begin(List<Method> calls) {
         int birds = chance.nextInt(9);
         for (int b = 0; b < birds; b++) {
             compare(find(calls, "bird"), chance.nextInt(7));
@@ -85,7 +85,7 @@ public final class ModelTest {
         }
     }
 
-    private void compare(Method m, int... a) throws ReflectiveOperationException {
+    private void compare(Method m, int... a) {
         if (!right || told.size() >= CALLS) {
             return;
         }
@@ -103,6 +103,8 @@ public final class ModelTest {
         } catch (InvocationTargetException e) {
             right = false;
             told.add(call + ": " + e.getCause() + ", due is " + due);
+        } catch (IllegalAccessException e) {
+            throw new IllegalStateException(e);
         }
     }
 
@@ -154,7 +156,7 @@ public final class ModelTest {
         }
     }
 
-    private void feedText(List<Method> calls) throws ReflectiveOperationException {
+    private void feedText(List<Method> calls) {
         if (chance.nextInt(3) > 0) {
             compare(find(calls, "wipe"));
         }
